@@ -73,7 +73,12 @@ public final class CompareTest {
         return random.nextInt(in) == 0;
     }
 
+    private static final int[] EXTREMES = {Integer.MIN_VALUE, Integer.MIN_VALUE + 1, -60, -2, 31, 32, 33, 64, 255, 10000, Integer.MAX_VALUE - 1, Integer.MAX_VALUE};
+
     private Object argument(char kind) {
+        if (kind != 'V' && one(60)) {
+            return EXTREMES[any(0, EXTREMES.length - 1)];
+        }
         int clocks = Math.max(1, real.count(3));
         int days = Math.max(1, real.count(0));
         switch (kind) {
@@ -246,7 +251,6 @@ public final class CompareTest {
                 System.out.println(name + " had fewer than two unlike answers");
             }
         }
-        if (args.length > 1) { answers.forEach((k, v) -> System.out.println(k + " " + v.size() + " " + v.stream().sorted().limit(12).toList())); }
         System.out.println("CompareTest: " + asked + " answers, " + wrong + " not as due");
         if (wrong != 0) {
             System.exit(1);

@@ -514,57 +514,33 @@ public final class SlowNoon {
     // ---- noons that were seen ----
 
     public int away(int slot) {
-        int code = hear(slot);
-        if (code != 0) {
-            return code;
-        }
-        witness.searchAway(street);
-        return witness.sets;
+        int code = seekAway(slot);
+        return code == 0 ? witness.sets : code;
     }
 
     public int gone(int slot) {
-        int code = hear(slot);
-        if (code != 0) {
-            return code;
-        }
-        witness.searchAway(street);
-        return witness.fewestSet;
+        int code = seekAway(slot);
+        return code == 0 ? witness.fewestSet : code;
     }
 
     public int surely(int slot) {
-        int code = hear(slot);
-        if (code != 0) {
-            return code;
-        }
-        witness.searchAway(street);
-        return witness.inAll;
+        int code = seekAway(slot);
+        return code == 0 ? witness.inAll : code;
     }
 
     public int ask(int slot) {
-        int code = hear(slot);
-        if (code != 0) {
-            return code;
-        }
-        witness.searchAway(street);
-        return witness.bestQuestion();
+        int code = seekAway(slot);
+        return code == 0 ? witness.bestQuestion() : code;
     }
 
     public int under(int slot) {
-        int code = hear(slot);
-        if (code != 0) {
-            return code;
-        }
-        witness.searchUnder(street);
-        return witness.pairs;
+        int code = seekUnder(slot);
+        return code == 0 ? witness.pairs : code;
     }
 
     public int floor(int slot) {
-        int code = hear(slot);
-        if (code != 0) {
-            return code;
-        }
-        witness.searchUnder(street);
-        return witness.firstPair;
+        int code = seekUnder(slot);
+        return code == 0 ? witness.firstPair : code;
     }
 
     // ---- oversleeping ----
@@ -590,8 +566,10 @@ public final class SlowNoon {
         return NONE;
     }
 
+    // slowest() stays so whenever it oversleeps itself; another one would have to oversleep while
+    // slowest() does not, which is less likely at any odds but 0, and at 0 nothing changes.
     public int likely(int day) {
-        return isDay(day) ? sleeper.likeliest(street.lates[day], street.alive[day], now.odds) : NO_SUCH;
+        return isDay(day) ? slowestOn(day) : NO_SUCH;
     }
 
     // ---- acts ----
@@ -883,6 +861,22 @@ public final class SlowNoon {
         }
         owners.run(now, street.lates[day], street.alive[day], clock, other);
         return true;
+    }
+
+    private int seekAway(int slot) {
+        int code = hear(slot);
+        if (code == 0) {
+            witness.searchAway(street);
+        }
+        return code;
+    }
+
+    private int seekUnder(int slot) {
+        int code = hear(slot);
+        if (code == 0) {
+            witness.searchUnder(street);
+        }
+        return code;
     }
 
     private int hear(int slot) {
@@ -1659,7 +1653,6 @@ public final class SlowNoon {
         int above;
         int below;
         final int[] lates = new int[CLOCKS_MOST];
-        private final int[] tally = new int[CLOCKS_MOST];
         private long state;
 
         void weigh(int[] minutes, int bits, int odds, int m) {
@@ -1678,36 +1671,6 @@ public final class SlowNoon {
                 return 0;
             }
             return late + SLEEP > m ? TENTHS - odds : TENTHS;
-        }
-
-        int likeliest(int[] minutes, int bits, int odds) {
-            for (int clock = 0; clock < CLOCKS_MOST; clock++) {
-                tally[clock] = 0;
-            }
-            for (int asleep = 0; asleep < 1 << CLOCKS_MOST; asleep++) {
-                int weight = weightOf(minutes, bits, odds, asleep);
-                int last = Street.lastOf(lates, bits);
-                if (last != NONE) {
-                    tally[last] += weight;
-                }
-            }
-            return Street.lastOf(tally, bits);
-        }
-
-        // A clock that can't oversleep is none of those asleep, so that each case comes once.
-        private int weightOf(int[] minutes, int bits, int odds, int asleep) {
-            int weight = 1;
-            for (int clock = 0; clock < CLOCKS_MOST; clock++) {
-                lates[clock] = minutes[clock];
-                boolean sleeps = Street.has(asleep, clock);
-                if (Street.has(bits, clock) && minutes[clock] != NEVER) {
-                    weight *= sleeps ? odds : TENTHS - odds;
-                    lates[clock] += sleeps ? SLEEP : 0;
-                } else if (sleeps) {
-                    weight = 0;
-                }
-            }
-            return weight;
         }
 
         void begin(int seed) {

@@ -74,6 +74,9 @@ public final class PromiseTest {
         due(4, "count(5)", x.count(5), 0);
         due(4, "town()", x.town(), 0);
         due(4, "waits()", x.waits(), -2);
+        for (int what = 0; what <= 8; what++) {
+            due(4, "count(" + what + ") without a town", x.count(what), 0);
+        }
         Due.feed(x, " \n ");
         due(4, "town()", x.town(), 0);
         Due.feed(x, "town\ndays007home 0odds 10;clock at 9early 60gains 9rent 999dead;trade waits 99 ; ");
@@ -113,6 +116,13 @@ public final class PromiseTest {
         fault("town", 1, 4);
         fault("town  ", 1, 6);
         fault("towns", 1, 0);
+        fault("down days 1", 1, 0);
+        fault("town bays 1", 1, 5);
+        fault("town`days 1", 1, 4);
+        fault("town{days 1", 1, 4);
+        fault("town days 1/", 1, 11);
+        fault("town days 1:", 1, 11);
+        fault("town days 1 home 0 odds 1 0;", 1, 26);
         fault("town days 0", 2, 10);
         fault("town days 8 home 10", 2, 10);
         fault("town days 99999999999999999999 home", 2, 10);
@@ -297,6 +307,12 @@ public final class PromiseTest {
         due(15, "waits()", x.waits(), 0);
         due(16, "worst()", x.worst(), NONE);
         due(20, "best()", x.best(), NONE);
+        SlowNoon one = Due.told("town days 1 home 0 odds 0;clock at 0 late 1 loses 0 rent 1;trade waits 1;");
+        due(16, "worst() of a wait of 1", one.worst(), 0);
+        due(21, "deals() of 1 saved, 1 paid", one.deals(), 0);
+        one.rate(0, 0);
+        due(21, "deals() of 1 saved, 0 paid", one.deals(), 1);
+        due(20, "best()", one.best(), 0);
         SlowNoon bare = Due.told(BARE);
         due(15, "waits()", bare.waits(), 0);
         due(16, "worst()", bare.worst(), NONE);
@@ -547,6 +563,8 @@ public final class PromiseTest {
         due(45, "law(601)", x.law(601), -2);
         due(45, "law(-1)", x.law(-1), -2);
         due(45, "law(0)", new SlowNoon().law(0), -2);
+        SlowNoon first = Due.told("town days 2 home 0 odds 0;clock at 0 late 9 gains 9 rent 0;clock at 0 late 1 loses 0 rent 0;");
+        due(45, "law(5), day 0 the worse", first.law(5), 1);
         due(45, "law(600)", Due.told(BARE).law(600), 0);
         due(46, "middle(0)", x.middle(0), 10);
         due(46, "middle(3)", x.middle(3), -1000);
@@ -577,6 +595,12 @@ public final class PromiseTest {
         due(48, "rest(0, 1, 0)", two.rest(0, 1, 0), 20);
         due(48, "rest(1, 0, 0)", two.rest(1, 0, 0), 2);
         due(49, "race(0, 1, 0)", two.race(0, 1, 0), 12);
+        // The second of two alike is last by 1 more than the first, so here the noons of the rests are unlike.
+        SlowNoon unlike = Due.told("town days 1 home 0 odds 0;clock at 0 late 11 loses 0 rent 0;clock at 0 late 10 loses 0 rent 20;");
+        due(47, "rests(0, 1, 0)", unlike.rests(0, 1, 0), 2);
+        due(49, "race(0, 1, 0)", unlike.race(0, 1, 0), 12);
+        due(47, "rests(4, 0, 0)", x.rests(4, 0, 0), -2);
+        due(47, "rests(0, -1, 0)", x.rests(0, -1, 0), -2);
         due(47, "rests(0, 0, 0)", x.rests(0, 0, 0), -2);
         due(47, "rests(0, 3, 0)", x.rests(0, 3, 0), -2);
         due(47, "rests(0, 4, 0)", x.rests(0, 4, 0), -2);
@@ -793,6 +817,11 @@ public final class PromiseTest {
         due(66, "luck of both", both, 20);
         int first = x.luck(7, 10, 0, 0);
         due(66, "luck in two parts", first + x.luck(17, 10, 0, 0), x.luck(7, 20, 0, 0));
+        int one = 0;
+        for (int seed = 40; seed < 45; seed++) {
+            one += x.luck(seed, 1, 1, 0);
+        }
+        due(66, "luck(40, 5, 1, 0), one by one", x.luck(40, 5, 1, 0), one);
         due(66, "luck(0, 0, 0, 0)", x.luck(0, 0, 0, 0), -2);
         due(66, "luck(0, 21, 0, 0)", x.luck(0, 21, 0, 0), -2);
         due(66, "luck(0, 1, 2, 0)", x.luck(0, 1, 2, 0), -2);

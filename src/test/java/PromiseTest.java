@@ -155,6 +155,35 @@ public final class PromiseTest {
         fault(town + clock.repeat(6) + "$clock", 1, 26 + 6 * 33);
     }
 
+    /** What was cut off stays out, though the same bytes may still be held behind the tape's end. */
+    private static void cuts() {
+        String text = "town days 1 home 0 odds 0;clock at 3 late 22 loses 2 rent 77;  trade waits 1;";
+        int[][] ends = {{4, 4}, {6, 5}, {60, 60}, {67, 63}};
+        for (int[] e : ends) {
+            SlowNoon x = new SlowNoon();
+            Due.feed(x, text);
+            x.end(e[0]);
+            due(3, "town() of " + e[0] + " bytes", x.town(), -4);
+            due(5, "fault(1) of " + e[0] + " bytes", x.fault(1), e[1]);
+        }
+        SlowNoon x = new SlowNoon();
+        Due.feed(x, text);
+        x.end(59);
+        x.feed(0x3b202020, 0x20202020, 0x20202020, 0x20202020, 0x20202020);
+        due(3, "town()", x.town(), 2);
+        due(3, "clock(0, 3)", x.clock(0, 3), 7);
+        for (String fill : new String[] {" ", "a", "7", ";"}) {
+            Due.feed(x, fill.repeat(800));
+            due(4, "town() of 800 times " + fill, x.town(), fill.equals(" ") ? 0 : -4);
+            due(5, "fault(1)", x.fault(1), fill.equals(" ") ? NONE : 0);
+        }
+        Due.feed(x, BARE + " ".repeat(760) + "trade waits 1;");
+        due(4, "town() of 800 bytes", x.town(), 2);
+        Due.feed(x, BARE + " ".repeat(762) + "trade waits ");
+        due(4, "town() of 800 bytes", x.town(), -4);
+        due(5, "fault(1)", x.fault(1), 800);
+    }
+
     private static void clocks() {
         SlowNoon x = street();
         int[][] told = {{0, 10, 3, 100, 0}, {5, 15, 0, 50, 0}, {9, -6, 1, 30, 0}, {4, 20, -2, 70, 1}};
@@ -953,6 +982,7 @@ public final class PromiseTest {
         tape();
         towns();
         faults();
+        cuts();
         clocks();
         lates();
         noons();

@@ -4,10 +4,14 @@ final class Due {
     private int asked = 0;
 
     void due(int promise, String call, long got, long want) {
+        due("promise " + promise + ": " + call, got, want);
+    }
+
+    void due(String call, long got, long want) {
         asked++;
         if (got != want) {
             wrong++;
-            System.out.println("promise " + promise + ": " + call + " answered " + got + ", due is " + want);
+            System.out.println(call + " answered " + got + ", due is " + want);
         }
     }
 

@@ -131,6 +131,10 @@ public final class EdgeActsTest {
                 SlowNoon x = Lead.bare();
                 String s = slot + ", ";
                 E.of(x, "row(" + s + width + ", 60) 0; away(" + slot + ") 1; write(" + s + "59, 7) 0; away(" + slot + ") 0; write(" + s + "60, 7) -7; row(" + s + width + ", 60) 0; away(" + slot + ") 1");
+                for (int i = 0; i < 60; i++) {
+                    E.of(x, "write(" + s + i + ", 5) 0");
+                }
+                E.of(x, "away(" + slot + ") -2; row(" + s + width + ", 60) 0; away(" + slot + ") 1; row(" + s + width + ", 1) 0; away(" + slot + ") -2; row(" + s + width + ", 60) 0");
                 // A shorter one, then a longer one: what was written is gone.
                 E.of(x, "write(" + s + "5, 7) 0; row(" + s + width + ", 2) 0; write(" + s + "2, 1) -7; away(" + slot + ") 1; row(" + s + width + ", 8) 0; away(" + slot + ") 1; row(" + s + (3 - width) + ", 0) 0; away(" + slot + ") 1; write(" + s + "0, 1) -7; count(8) 1");
             }

@@ -30,6 +30,7 @@ public final class EdgeSearchTest {
         E.of(street(), "enter(0, 2, 1) 0; bury(15) 0; bury(14) 1; bury(12) 2");
         E.of(clocks(ONE, c(0, 0, 0), c(0, -9, 0)), "bury(0) 0");
         E.of(clocks(ONE, c(0, 9, 0), c(0, 9, 0), c(0, 9, 0), c(0, 9, 0), c(0, 9, 0), c(0, 9, 0)), "bury(8) 6; buries(8) 63; bury(9) 0");
+        E.of("town days 2 home 0 odds 0;clock at 0 late 9 gains 9 rent 0;clock at 0 late 0 loses 9 rent 0;", "bury(8) 2; buries(8) 3; bury(9) 0");
         E.stays("bury(0) 0; bury(600) 0", Lead.BARE);
         E.says(35, "-2: there is no such m, no TOWN.");
         E.noMinute("bury(%)", "-2");
@@ -85,7 +86,7 @@ public final class EdgeSearchTest {
         E.stays("mended(-1) -2; mended(4) -2; mended(MIN) -2; mended(MAX) -2", Lead.RICH, Lead.BARE);
         E.noTown("mended(0)", "-2");
         E.says(39, "The fewest mendings (0 .. 3) by which NOON is m (0 .. 600) at most on all DAYS.");
-        E.of(LATE, "fewest(11) 0; fewest(600) 0; fewest(10) 1; fewest(2) 1; fewest(1) 2; fewest(0) 3; stop(0, 2) 11; fewest(600) 1; fewest(0) 3");
+        E.of(LATE, "fewest(11) 0; fewest(600) 0; fewest(10) 1; fewest(2) 1; fewest(1) 2; fewest(0) 3; fewest(600) 0; stop(0, 2) 11; fewest(600) 1; fewest(0) 3");
         E.of(clocks(ONE, c(0, 9, 0), c(0, 8, 0), c(0, 7, 0), c(0, 6, 0)), "fewest(9) 0; fewest(8) 1; fewest(7) 2; fewest(6) 3; fewest(5) NONE");
         E.of(clocks(ONE, c(0, -9, 0)), "fewest(0) 0");
         E.stays("fewest(0) 0; fewest(600) 0", Lead.BARE);
@@ -132,7 +133,7 @@ public final class EdgeSearchTest {
         E.says(41, "NONE: there is none such;");
         E.stays("rounds(0, 3) NONE; rounds(0, -1) NONE; rounds(1, 4) NONE; rounds(0, 6) NONE; rounds(0, MIN) NONE; rounds(0, MAX) NONE", Lead.RICH);
         E.stays("rounds(0, 0) NONE; rounds(1, 0) NONE; rounds(0, -1) NONE", Lead.BARE);
-        E.of(street(), "stop(1, 0) 15; rounds(0, 0) NONE; rounds(0, 1) NONE; rounds(0, 2) NONE");
+        E.of(street(), "rounds(0, 0) 0; stop(1, 0) 15; rounds(0, 0) NONE; rounds(0, 1) NONE; rounds(0, 2) NONE");
         E.says(41, "-2 likewise.");
         E.noDay("rounds(%, 0)", "-2");
         E.noDay("rounds(%, -1)", "-2");
@@ -201,6 +202,7 @@ public final class EdgeSearchTest {
         E.says(45, "The greatest k by which that is m (0 .. 600) at most on all DAYS.");
         E.of(street(), "law(16) 3; law(15) 2; law(14) 1; law(0) 1; law(600) 3; enter(2, 1, 1) 0; law(600) 2; law(15) 1; stop(1, 0) 15; law(600) 1");
         E.of(clocks(ONE, c(0, 4, 0), c(0, 4, 0), c(0, 1, 0), c(0, 4, 0), c(0, 9, 0), c(0, 8, 0)), "law(600) 6; law(8) 5; law(7) 4; law(4) 4; law(3) 1; law(1) 1; law(0) 0");
+        E.of("town days 2 home 0 odds 0;clock at 0 late 9 gains 9 rent 0;clock at 0 late 1 loses 0 rent 0;", "law(5) 1; law(9) 2; law(0) 0");
         E.says(45, "0: none;");
         E.of(clocks(ONE, c(0, 4, 0)), "law(3) 0; law(4) 1; enter(0, 1, 1) 0; law(600) 0");
         E.of(clocks(ONE, c(0, 4, 0)), "stop(0, 1) 4; law(600) 0");

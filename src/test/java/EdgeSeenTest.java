@@ -39,7 +39,7 @@ public final class EdgeSeenTest {
         E.of(seen(lates(4, 7, 9), 0, 7, 1, 7), "away(0) 2");
         E.of(seen(lates(4, 7, 9), 0, 7, 1, 9), "away(0) 0");
         E.of(seen(lates(4, 7, 9), 0, 7, 0, 7), "away(0) 2");
-        E.of(seen(lates(4, 7, 9)), "away(0) 8");
+        E.of(seen(lates(4, 7, 9)), "away(0) 8; enter(0, 1, 1) 0; away(0) 8; enter(0, 0, 1) 0; away(0) 4");
         E.of(seen(lates(1, 2, 3, 4, 5, 6)), "away(0) 64");
         E.of(seen(lates()), "away(0) 1");
         E.of(seen(lates(), 1, 0), "away(0) 1; gone(0) 0; surely(0) 0; ask(0) NONE");
@@ -90,6 +90,8 @@ public final class EdgeSeenTest {
         E.of(seen(lates(5, 5), 0, 5), "ask(0) 0");
         // {}, {0}, {1} and with or without clock 2 each: that one leaves 3 of 6, the others 4.
         E.of(seen(lates(5, 5, 1), 0, 5), "away(0) 6; ask(0) 2");
+        // What was asked before leaves nothing behind.
+        E.of(seen(lates(5, 5, 1), 0, 1), "ask(0) NONE; write(0, 1, 5) 0; ask(0) 2; ask(0) 2");
         E.of(seen(lates(4, 7, 9)), "ask(0) 0; enter(0, 0, 1) 0; ask(0) 1");
         E.says(53, "NONE: none;");
         E.of(seen(lates(4, 7, 9), 0, 4), "away(0) 1; ask(0) NONE");
@@ -189,6 +191,8 @@ public final class EdgeSeenTest {
         E.of(clocks(two(10), 5), "sure(0, 1) 35; sure(0, 0) 0");
         E.of(clocks(two(0), 5), "sure(0, 100) 5");
         E.of(clocks(two(5), -40), "sure(0, 100) 0");
+        // Three at nine in ten: 72.9 in a hundred.
+        E.of(clocks(two(1), 5, 5, 5), "sure(0, 72) 5; sure(0, 73) 35");
         E.of(clocks(two(1), 5, 7), "sure(0, 81) 7; sure(0, 82) 35; sure(0, 90) 35; sure(0, 91) 37; sure(0, 100) 37");
         E.stays("sure(0, 100) 0; sure(1, 0) 0", Lead.BARE);
         E.says(57, "NONE: by none;");

@@ -204,6 +204,7 @@ public final class EdgeStreetTest {
         E.of(five, "chorus(0) 3; enter(1, 0, 1) 0; chorus(0) 2; enter(4, 0, 1) 0; chorus(0) 2; enter(2, 0, 1) 0; chorus(0) 1");
         E.of(five, "stop(0, 0) 5; stop(1, 0) 5; stop(4, 0) 5; chorus(0) 2; stop(2, 0) 3; stop(3, 1) 3; chorus(0) 1; chorus(1) 0");
         E.of(clocks(ONE, 1, 1, 1, 1, 1, 1), "chorus(0) 6");
+        E.of(clocks(ONE, 1), "chorus(0) 1; tolls(0) 1");
         E.stays("chorus(0) 0", Lead.BARE);
         E.says(23, "-2: there is none such.");
         E.noDay("chorus(%)", "-2");

@@ -41,6 +41,19 @@ public final class EdgeTextTest {
         }
     }
 
+    /** Each letter of each word made another, or left out: it is another word, which can't stand there. */
+    private static void everyLetter(String ahead, String line) {
+        for (int i = 0; i < line.length(); i++) {
+            if (line.charAt(i) >= 'a' && line.charAt(i) <= 'z') {
+                int place = line.lastIndexOf(' ', i) + 1;
+                bad(ahead + line.substring(0, i) + (line.charAt(i) == 'q' ? 'p' : 'q') + line.substring(i + 1), 1, ahead.length() + place);
+                if (line.indexOf(' ', i) > place + 1) {
+                    bad(ahead + line.substring(0, i) + line.substring(i + 1), 1, ahead.length() + place);
+                }
+            }
+        }
+    }
+
     private static String join(List<String> tokens) {
         return String.join(" ", tokens);
     }
@@ -81,6 +94,10 @@ public final class EdgeTextTest {
         everyToken(TOWN, "clock at 3 late 5 loses 2 rent 9 ;");
         everyToken(TOWN, "clock at 3 early 5 gains 2 rent 9 ;");
         everyToken(TOWN, "trade waits 4 ;");
+        everyLetter("", "town days 1 home 0 odds 0 ;");
+        everyLetter(TOWN, "clock at 3 late 5 loses 2 rent 9 dead ;");
+        everyLetter(TOWN, "clock at 3 early 5 gains 2 rent 9 ;");
+        everyLetter(TOWN, "trade waits 4 ;");
         E.of(TOWN + "clock at 3 late 5 gains 2 rent 9 dead;", "clock(0, 0) 3; clock(0, 1) 5; clock(0, 2) -2; clock(0, 3) 9; clock(0, 4) 1");
         E.of(TOWN + "clock at 4 early 6 loses 3 rent 8;", "clock(0, 0) 4; clock(0, 1) -6; clock(0, 2) 3; clock(0, 3) 8; clock(0, 4) 0");
         bad(TOWN + "clock at 3 late 5 loses 2 rent 9 dead dead ;", 1, 64);
@@ -152,6 +169,10 @@ public final class EdgeTextTest {
             } else if (sign < 'a' || sign > 'z') {
                 bad("town" + s + "days 1 home 0 odds 0;", 1, 4);
             }
+        }
+        for (char letter = 'a'; letter <= 'z'; letter++) {
+            bad("town" + letter + " days 1 home 0 odds 0;", 1, 0);
+            bad(letter + "town days 1 home 0 odds 0;", 1, 0);
         }
         E.says("I", "words (a .. z), numbers (digits), the sign ; .");
         for (String s : new String[] {"`", "{", "A", "Z", "_", "\u00e1", "\u00ff", "\u0080", "\u007f", "\u0000", "-", "+", ".", ",", ":", "/", "\t", "\r"}) {
@@ -262,6 +283,16 @@ public final class EdgeTextTest {
         }
         // The bytes that were cut off are gone, also when more come behind the first ones.
         E.of(fed(TOWN + "$"), "end(26) 26; town() 1");
+        E.of(fed("town days 1"), "end(3) 3; town() -4; fault(1) 0");
+        E.of(fed("towns"), "end(4) 4; town() -4; fault(1) 4");
+        E.of(fed("town days 1 home 0 odds 10"), "end(25) 25; town() -4; fault(0) 1; fault(1) 25");
+        E.of(fed("town days 11"), "end(11) 11; town() -4; fault(0) 1; fault(1) 11");
+        E.of(fed("town  "), "end(5) 5; town() -4; fault(1) 5");
+        for (String full : new String[] {" ", "a", "7", ";", "$"}) {
+            E.of(fed(full.repeat(800)), "count(7) 800; town() " + (full.equals(" ") ? 0 : -4) + "; fault(1) " + (full.equals(" ") ? -1 : 0));
+        }
+        E.of(fed("town days 1 home 0 odds " + "0".repeat(776)), "town() -4; fault(0) 1; fault(1) 800");
+        E.of(fed("town" + " ".repeat(793) + "day"), "town() -4; fault(0) 1; fault(1) 797");
         E.of(fed("town days 17"), "end(11) 11; feed(0x20686f6d, 0x65203320, 0x6f646473, 0x20343b20, 0x20202020) 31; town() 1; count(0) 1; count(1) 3");
         E.of(fed(TOWN), "end(0) 0; town() 0; count(0) 0");
         E.of(Lead.TAPED.make(), "end(800) 800; count(7) 800; end(26) 26; town() 1");

@@ -75,6 +75,9 @@ public final class EdgeSearchTest {
         // One is enough for the least, so no second one: days 0 and 1 would do as well.
         E.of(clocks(ONE, c(0, 9, 0)) + "trade waits 1;", "mend(0, 1) 9; mended(1) 0; mended(2) 0; mended(3) 0; mends(3) 0");
         E.of(clocks(ONE, c(0, 3, 0), c(0, 9, 0)) + "trade waits 1;", "mended(1) 1; mended(2) 0");
+        // On days 0 and 1 six are late, too many for two mendings; on day 2 two are left, and a day ahead they would lose again.
+        E.of("town days 3 home 0 odds 0;" + "clock at 0 late 50 loses 1 rent 0;".repeat(6) + "trade waits 1;",
+            "enter(2, 2, 1) 0; enter(3, 2, 1) 0; enter(4, 2, 1) 0; enter(5, 2, 1) 0; mends(0) 153; mends(1) 153; mended(1) NONE; mends(2) 101; mended(2) 20; mends(3) 101; mended(3) 20");
         E.says(38, "NONE: none is wanted;");
         E.of(LATE, "mended(0) NONE");
         E.of(clocks(ONE, c(0, 9, 0), c(0, 9, 0)) + "trade waits 1;", "mended(1) NONE; mended(2) 0");

@@ -982,13 +982,13 @@ public final class SlowNoon {
             }
         }
 
-        boolean isActOf(int i, int clock, int day) {
-            return actClock[i] == clock && actDay[i] == day;
+        int kindIf(int i, int clock, int day) {
+            return actClock[i] == clock && actDay[i] == day ? actKind[i] : NONE;
         }
 
         static int waitOf(int noon, int waiting) {
-            int minutes = noon == NEVER ? MINUTE_MOST : Math.max(0, noon);
-            return minutes * waiting;
+            int minutes = noon == NEVER ? MINUTE_MOST : noon;
+            return minutes > 0 ? minutes * waiting : 0;
         }
     }
 
@@ -1192,18 +1192,18 @@ public final class SlowNoon {
             }
         }
 
-        // The table's rows from base on are the days; a further mending, if there is a day of it,
-        // is done behind that day's other acts.
+        // The table's rows from base on are the days. A further mending, if there is a day of it, is
+        // done behind that day's other acts: what was ahead of it tells nothing of what comes.
         static void fillLates(Town town, int clock, int mendDay, int[][] table, int base) {
-            int late = town.late[clock];
+            int from = Math.max(0, mendDay);
+            int late = mendDay == NONE ? town.late[clock] : 0;
             int loses = town.loses[clock];
             boolean stopped = false;
-            for (int day = 0; day < town.days; day++) {
-                if (day > 0) {
-                    late += loses;
-                }
-                for (int i = 0; i <= town.acts; i++) {
-                    int kind = kindOf(town, i, clock, day, mendDay);
+            for (int day = from; day < town.days; day++) {
+                late += day > from ? loses : 0;
+                int acts = day == mendDay ? 0 : town.acts;
+                for (int i = 0; i < acts; i++) {
+                    int kind = town.kindIf(i, clock, day);
                     if (kind == MENDED) {
                         late = 0;
                         loses = town.loses[clock];
@@ -1218,21 +1218,12 @@ public final class SlowNoon {
             }
         }
 
-        private static int kindOf(Town town, int i, int clock, int day, int mendDay) {
-            if (i >= town.acts) {
-                return day == mendDay ? MENDED : NONE;
-            }
-            return town.isActOf(i, clock, day) ? town.actKind[i] : NONE;
-        }
-
         private void fillAlive(Town town, int clock) {
             boolean dead = town.dead[clock] == 1;
             for (int day = 0; day < days; day++) {
                 for (int i = 0; i < town.acts; i++) {
-                    if (town.isActOf(i, clock, day)) {
-                        int kind = town.actKind[i];
-                        dead = kind == BURIED || dead && kind != REVIVED;
-                    }
+                    int kind = town.kindIf(i, clock, day);
+                    dead = kind == BURIED || dead && kind != REVIVED;
                 }
                 if (!dead) {
                     alive[day] |= 1 << clock;
@@ -1307,6 +1298,9 @@ public final class SlowNoon {
 
     /** The best few mendings: by wait, or by how many noons are above a limit. */
     private static final class Mender {
+        // Earlier than any clock: where no other counts.
+        private static final int EARLIEST = -NEVER;
+
         int least;
         int few;
         int first;
@@ -1316,15 +1310,24 @@ public final class SlowNoon {
         private int limit;
         private int head;
         private final int[] alive = new int[DAYS_MOST];
-        // Seven rows for each day of a mending: how its clock goes on behind it.
+        // Seven rows for each day of a mending: how its clock goes on from it.
         private final int[][] fresh = new int[DAYS_MOST * DAYS_MOST][CLOCKS_MOST];
         // Seven rows for each number of mendings that are done so far.
-        private final int[][] stages = new int[DAYS_MOST * (MENDS_MOST + 1)][CLOCKS_MOST];
+        private final int[][] stages = new int[DAYS_MOST * MENDS_MOST][CLOCKS_MOST];
+        // Of the stage that waits for its last mending: who is last, when, when all but he, and
+        // who is last alone on some day from this one on.
+        private final int[] last = new int[DAYS_MOST];
+        private final int[] noon = new int[DAYS_MOST];
+        private final int[] noonButLast = new int[DAYS_MOST];
+        private final int[] lastFrom = new int[DAYS_MOST];
 
         void search(Town town, Street street, int n, int above) {
             prepare(town, street);
             limit = above;
-            least = tollFrom(0, 0);
+            least = 0;
+            for (int day = 0; day < days; day++) {
+                least += toll(0, day);
+            }
             few = 0;
             first = NONE;
             for (int mendings = 1; mendings <= n && least > 0; mendings++) {
@@ -1348,7 +1351,8 @@ public final class SlowNoon {
         // Pairs rise, so the days ahead of a pair's day stay as they are: if they alone cost
         // as much as the least, no pair from there on helps.
         private void seek(int depth, int left, int from, int ahead) {
-            if (depth >= MENDS_MOST) {
+            if (left <= 1 || depth + 1 >= MENDS_MOST) {
+                seekLast(depth, from, ahead);
                 return;
             }
             int spent = ahead;
@@ -1357,22 +1361,34 @@ public final class SlowNoon {
                     int pair = 10 * day + clock;
                     if (pair >= from && apply(depth, day, clock)) {
                         head = depth == 0 ? pair : head;
-                        if (left > 1) {
-                            seek(depth + 1, left - 1, pair + 1, spent);
-                        } else {
-                            keep(depth + 1, spent + tollFrom(depth + 1, day));
-                        }
+                        seek(depth + 1, left - 1, pair + 1, spent);
                     }
                 }
                 spent += toll(depth, day);
             }
         }
 
+        // Only who is last alone makes noon earlier, so no other one is worth the last mending.
+        private void seekLast(int depth, int from, int ahead) {
+            look(depth, from / 10);
+            int spent = ahead;
+            for (int day = from / 10; day < days && spent < least; day++) {
+                for (int clock = 0; clock < clocks; clock++) {
+                    int pair = 10 * day + clock;
+                    if (pair >= from && Street.has(lastFrom[day], clock)) {
+                        head = depth == 0 ? pair : head;
+                        keep(depth + 1, spent + tollBy(day, clock));
+                    }
+                }
+                spent += tollOf(noon[day]);
+            }
+        }
+
         // Rows come as they rise, and short ones first, so only a better one takes their place.
-        private void keep(int depth, int whole) {
+        private void keep(int mendings, int whole) {
             if (whole < least) {
                 least = whole;
-                few = depth;
+                few = mendings;
                 first = head;
             }
         }
@@ -1390,20 +1406,44 @@ public final class SlowNoon {
             return changes;
         }
 
-        private int toll(int depth, int day) {
-            int noon = Street.noonOf(stages[depth * DAYS_MOST + day], alive[day]);
-            if (limit == NONE) {
-                return Town.waitOf(noon, waiting);
+        private void look(int depth, int from) {
+            int alone = 0;
+            for (int day = days - 1; day >= from; day--) {
+                int[] lates = stages[depth * DAYS_MOST + day];
+                last[day] = Street.lastOf(lates, alive[day]);
+                noon[day] = last[day] == NONE ? 0 : lates[last[day]];
+                int next = last[day] == NONE ? NONE : Street.lastOf(lates, alive[day] & ~(1 << last[day]));
+                noonButLast[day] = next == NONE ? EARLIEST : lates[next];
+                if (last[day] != NONE && noonButLast[day] < noon[day]) {
+                    alone |= 1 << last[day];
+                }
+                lastFrom[day] = alone;
             }
-            return noon > limit ? 1 : 0;
         }
 
-        private int tollFrom(int depth, int from) {
+        // What the days from a mending's on cost by it.
+        private int tollBy(int mendDay, int clock) {
             int whole = 0;
-            for (int day = from; day < days; day++) {
-                whole += toll(depth, day);
+            for (int day = mendDay; day < days; day++) {
+                int minute = noon[day];
+                if (Street.has(alive[day], clock)) {
+                    int others = last[day] == clock ? noonButLast[day] : minute;
+                    minute = Math.max(others, fresh[mendDay * DAYS_MOST + day][clock]);
+                }
+                whole += tollOf(minute);
             }
             return whole;
+        }
+
+        private int toll(int depth, int day) {
+            return tollOf(Street.noonOf(stages[depth * DAYS_MOST + day], alive[day]));
+        }
+
+        private int tollOf(int minute) {
+            if (limit == NONE) {
+                return Town.waitOf(minute, waiting);
+            }
+            return minute > limit ? 1 : 0;
         }
     }
 

@@ -1298,9 +1298,6 @@ public final class SlowNoon {
 
     /** The best few mendings: by wait, or by how many noons are above a limit. */
     private static final class Mender {
-        // Earlier than any clock: where no other counts.
-        private static final int EARLIEST = -NEVER;
-
         int least;
         int few;
         int first;
@@ -1406,14 +1403,15 @@ public final class SlowNoon {
             return changes;
         }
 
+        // A noon below 0 costs no more than one of 0, which stands where no other counts.
         private void look(int depth, int from) {
             int alone = 0;
             for (int day = days - 1; day >= from; day--) {
                 int[] lates = stages[depth * DAYS_MOST + day];
                 last[day] = Street.lastOf(lates, alive[day]);
                 noon[day] = last[day] == NONE ? 0 : lates[last[day]];
-                int next = last[day] == NONE ? NONE : Street.lastOf(lates, alive[day] & ~(1 << last[day]));
-                noonButLast[day] = next == NONE ? EARLIEST : lates[next];
+                int others = last[day] == NONE ? 0 : alive[day] & ~(1 << last[day]);
+                noonButLast[day] = Street.noonOf(lates, others);
                 if (last[day] != NONE && noonButLast[day] < noon[day]) {
                     alone |= 1 << last[day];
                 }

@@ -78,6 +78,12 @@ public final class EdgeSearchTest {
         // On days 0 and 1 six are late, too many for two mendings; on day 2 two are left, and a day ahead they would lose again.
         E.of("town days 3 home 0 odds 0;" + "clock at 0 late 50 loses 1 rent 0;".repeat(6) + "trade waits 1;",
             "enter(2, 2, 1) 0; enter(3, 2, 1) 0; enter(4, 2, 1) 0; enter(5, 2, 1) 0; mends(0) 153; mends(1) 153; mended(1) NONE; mends(2) 101; mended(2) 20; mends(3) 101; mended(3) 20");
+        // Clock 1 is last from day 1 on; as it loses nothing, day 0 does as well, and is less.
+        E.of("town days 5 home 0 odds 0;clock at 0 late 20 gains 9 rent 0;clock at 0 late 15 loses 0 rent 0;trade waits 1;",
+            "mends(0) 80; mends(1) 33; mended(1) 1; mends(2) 0; mended(2) 0");
+        // It would lose again from day 1 on, if it were mended then: mended a day ahead, it is oiled behind that.
+        E.of("town days 5 home 0 odds 0;clock at 0 late 60 loses 0 rent 0;clock at 0 late 50 loses 9 rent 0;trade waits 1;",
+            "enter(0, 1, 1) 0; oil(1, 1) 59; mends(0) 296; mends(1) 96; mended(1) 1");
         E.says(38, "NONE: none is wanted;");
         E.of(LATE, "mended(0) NONE");
         E.of(clocks(ONE, c(0, 9, 0), c(0, 9, 0)) + "trade waits 1;", "mended(1) NONE; mended(2) 0");

@@ -133,7 +133,7 @@ public final class CompareTest {
             return "trade waits " + number(any(0, 99));
         }
         return "clock at " + number(any(0, 9)) + blank() + (one(3) ? "early " : "late ") + number(calm ? any(0, 9) : any(0, 60))
-            + blank() + (one(3) ? "gains" : "loses") + blank() + number(any(0, 9)) + " rent " + number(one(2) ? any(0, 60) : any(0, 999))
+            + blank() + (one(3) ? "gains" : "loses") + blank() + number(any(0, calm ? 2 : 9)) + " rent " + number(one(2) ? any(0, 60) : any(0, 999))
             + (one(6) ? " dead" : "");
     }
 
@@ -214,6 +214,27 @@ public final class CompareTest {
         call("goes", slot, day);
     }
 
+    /** Small towns in which several mendings are worth as much, so that the least row must be told from the others. */
+    private void mendings() {
+        int days = any(2, 5);
+        StringBuilder text = new StringBuilder("town days " + days + " home 0 odds 0;trade waits 1;");
+        int clocks = any(1, 3);
+        for (int c = 0; c < clocks; c++) {
+            text.append(line(one(2)).replaceAll("trade.*", "clock at 0 late 3 loses 0 rent 0")).append(';');
+        }
+        tell(text.toString());
+        for (int acts = any(0, 5); acts > 0; acts--) {
+            drawnCall(new String[] {"mend cd", "oil cd", "stop cd", "enter cdw"}[any(0, 3)]);
+        }
+        for (int n = 0; n <= 3; n++) {
+            call("mends", n);
+            call("mended", n);
+        }
+        for (int m : new int[] {0, 1, 3, 9, any(0, 60)}) {
+            call("fewest", m);
+        }
+    }
+
     private void run() {
         int calls = 0;
         if (!one(10)) {
@@ -242,11 +263,15 @@ public final class CompareTest {
         for (int seed = 1; seed <= runs && wrong == 0; seed++) {
             CompareTest test = new CompareTest(seed);
             test.run();
+            for (int i = 0; i < 5; i++) {
+                test.mendings();
+            }
             wrong += test.wrong;
         }
+        boolean all = wrong == 0;
         for (String spec : CALLS) {
             String name = spec.split(" ")[0];
-            if (answers.getOrDefault(name, Set.of()).size() < 2) {
+            if (all && answers.getOrDefault(name, Set.of()).size() < 2) {
                 wrong++;
                 System.out.println(name + " had fewer than two unlike answers");
             }
